@@ -5,6 +5,7 @@ public final class CuttingTest {
         cutChecksInOrder();
         cutUsesUpAStrip();
         cutTakesMarginAndCreep();
+        cutOfSixStrips();
         cutCostsPatience();
         turn();
         turnCostsPatience();
@@ -79,8 +80,21 @@ public final class CuttingTest {
         Due.due("2 are left", x.strip(0, 0) * 100 + x.strip(1, 0), 230);
     }
 
+    private static void cutOfSixStrips() {
+        FoldedProfiles x = Due.stallWith("11111111l");
+        x.buy(12, 1);
+        for (int strip = 0; strip < 5; strip++) {
+            Due.due("part " + strip, x.part(strip, 2), strip + 1);
+        }
+        Due.due("the first is used up", x.cut(0, 0, 0), 1);
+        Due.due("5 are left", x.count(2), 5);
+        Due.due("of 10", x.count(4), 10);
+        Due.due("the last is used up", x.cut(0, 4, 0), 1);
+        Due.due("of 8", x.count(4), 8);
+    }
+
     private static void cutTakesMarginAndCreep() {
-        FoldedProfiles x = Due.stallWith("11311111l");
+        FoldedProfiles x = Due.stallWith("31111111l");
         x.buy(80, 1);
         x.set(0, 2);
         x.set(1, 1);
@@ -199,6 +213,10 @@ public final class CuttingTest {
         Due.due("sitters that go", x.ifCut(0, 1, 3, 3), 3);
         Due.due("sitters served", x.ifCut(0, 1, 3, 4), 1);
         Due.due("strips", x.count(2), 2);
+        x.cut(0, 0, 2);
+        Due.due("one went", x.count(8), 1);
+        Due.due("two more would go", x.ifCut(0, 0, 0, 3), 2);
+        Due.due("if there are two folds too", x.ifCut(0, 0, 2, 3), 2);
     }
 
     private static void ifCutChecksInOrder() {
@@ -246,10 +264,21 @@ public final class CuttingTest {
         x.trade(1, 3);
         Due.due("the blade is too weak for strip 1", x.bestStrip(0, 1), 2);
         Due.due("by a fold", x.bestStrip(0, 2), FoldedProfiles.NONE);
+        longestStrip();
         Due.due("bestStrip(1, 4)", x.bestStrip(1, 4), FoldedProfiles.UNKNOWN);
         Due.due("bestStrip(-1, 0)", x.bestStrip(-1, 0), FoldedProfiles.UNKNOWN);
         Due.due("bestStrip(0, 4)", x.bestStrip(0, 4), FoldedProfiles.BAD_VALUE);
         Due.due("bestStrip(0, -1)", x.bestStrip(0, -1), FoldedProfiles.BAD_VALUE);
+    }
+
+    private static void longestStrip() {
+        FoldedProfiles x = Due.stallWith("11111111l");
+        x.buy(2, 1);
+        x.cut(0, 0, 0);
+        x.serve(0);
+        Due.due("the longest strip costs 11", x.buy(200, 1), 0);
+        Due.due("and is the best of one", x.bestStrip(0, 0), 0);
+        Due.due("coins", x.count(9), 0);
     }
 
     private static void fewestFolds() {

@@ -8,6 +8,7 @@ public final class SittersTest {
         coupleOfOneNumber();
         serveAll();
         serveAllFromTheHead();
+        serveOfTwelve();
         width();
         profile();
         sitter();
@@ -160,6 +161,21 @@ public final class SittersTest {
         Due.due("serveAll", x.serveAll(), 2);
         Due.due("the couple waits", x.sitter(0, 1), 2);
         Due.due("alone", x.count(3), 1);
+    }
+
+    private static void serveOfTwelve() {
+        FoldedProfiles x = Due.stallWith("11111111l");
+        for (int waiting = 2; waiting <= 12; waiting++) {
+            x.come(0, 0, 20 + waiting);
+        }
+        x.buy(50, 1);
+        x.cut(0, 0, 2);
+        Due.due("serve(0) of 12", x.serve(0), 9);
+        Due.due("the head then", x.sitter(0, 2), 19);
+        Due.due("the last then", x.sitter(10, 2), 29);
+        Due.due("no twelfth", x.sitter(11, 2), FoldedProfiles.UNKNOWN);
+        Due.due("serve(10) of 11", x.serve(10), 11);
+        Due.due("the last then", x.sitter(9, 2), 28);
     }
 
     private static void width() {

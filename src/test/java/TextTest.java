@@ -5,6 +5,7 @@ public final class TextTest {
         faults();
         entries();
         keptProfiles();
+        laterText();
         fullLine();
         fullProfiles();
         longText();
@@ -108,6 +109,18 @@ public final class TextTest {
         Due.due("comeAll", x.comeAll(), 5);
         Due.due("kept", x.count(1), 4);
         Due.due("numbers", x.sitter(1, 0) * 1000 + x.sitter(2, 0) * 100 + x.sitter(3, 0) * 10 + x.sitter(4, 0), 1033);
+    }
+
+    private static void laterText() {
+        FoldedProfiles x = Due.stallWith("11111111r3;22222222c4");
+        Due.text(x, "33333333l");
+        Due.due("comeAll", x.comeAll(), 3);
+        Due.due("nothing of the text before", x.sitter(2, 0) * 1000 + x.sitter(2, 1) * 100 + x.sitter(2, 2), 2020);
+        Due.text(x, "33333333");
+        Due.due("a fault", x.comeAll(), -108);
+        Due.text(x, "22222222c5");
+        Due.due("comeAll", x.comeAll(), 4);
+        Due.due("as it says", x.sitter(3, 0) * 1000 + x.sitter(3, 1) * 100 + x.sitter(3, 2), 1205);
     }
 
     private static void fullLine() {
