@@ -86,6 +86,9 @@ public final class CuttingTest {
         for (int strip = 0; strip < 5; strip++) {
             Due.due("part " + strip, x.part(strip, 2), strip + 1);
         }
+        Due.due("the lowest of 6", x.bestStrip(0, 0), 0);
+        Due.due("the last", x.ifCut(0, 5, 0, 2), 0);
+        Due.due("of none of 6", x.bestStrip(0, 1), FoldedProfiles.NONE);
         Due.due("the first is used up", x.cut(0, 0, 0), 1);
         Due.due("5 are left", x.count(2), 5);
         Due.due("of 10", x.count(4), 10);

@@ -9,6 +9,7 @@ public final class SittersTest {
         serveAll();
         serveAllFromTheHead();
         serveOfTwelve();
+        stockOfTenProfiles();
         width();
         profile();
         sitter();
@@ -176,6 +177,22 @@ public final class SittersTest {
         Due.due("no twelfth", x.sitter(11, 2), FoldedProfiles.UNKNOWN);
         Due.due("serve(10) of 11", x.serve(10), 11);
         Due.due("the last then", x.sitter(9, 2), 28);
+    }
+
+    private static void stockOfTenProfiles() {
+        FoldedProfiles x = Due.stallWith("11111111l");
+        for (int number = 1; number < 10; number++) {
+            x.draw(0, 7, number);
+        }
+        x.buy(40, 1);
+        Due.due("none of 10", x.sitter(0, 3), 0);
+        Due.due("for all", x.serveAll(), FoldedProfiles.NONE);
+        x.cut(9, 0, 1);
+        Due.due("cut so far", x.count(6), 2);
+        Due.due("in stock", x.count(5), 2);
+        Due.due("the last is another one", x.serve(0), FoldedProfiles.NOT_POSSIBLE);
+        x.come(9, 2, 9);
+        Due.due("but serves one that wants it", x.serve(1), 12);
     }
 
     private static void width() {
