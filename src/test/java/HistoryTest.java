@@ -1,3 +1,5 @@
+import java.util.List;
+
 /** Promises 15 (undo), 16 (keep), 17 (restore), 26 (count), and what each act records. */
 public final class HistoryTest {
     public static void main(String[] args) {
@@ -103,22 +105,22 @@ public final class HistoryTest {
         x.buy(50, 1);
         x.cut(0, 0, 2);
         x.turn(0, true);
-        int[] then = state(x);
+        List<String> then = Seen.state(x);
         x.cut(1, 0, 2);
         x.cut(0, 0, 2);
         x.undo();
         x.undo();
-        same("undone cuts", state(x), then);
+        Due.same("undone cuts", Seen.state(x), then);
         Due.due("serveAll", x.serveAll(), 1);
         x.undo();
-        same("undone serving", state(x), then);
+        Due.same("undone serving", Seen.state(x), then);
         Due.due("draw", x.draw(0, 4, 4), 2);
         Due.due("part", x.part(0, 17), 1);
         Due.due("trade", x.trade(0, 2), 15);
         x.undo();
         x.undo();
         x.undo();
-        same("undone strips", state(x), then);
+        Due.same("undone strips", Seen.state(x), then);
         x.keep();
         x.cut(0, 0, 0);
         x.cut(1, 0, 1);
@@ -126,39 +128,7 @@ public final class HistoryTest {
         x.set(1, 2);
         x.set(2, 20);
         x.restore();
-        same("restored", state(x), then);
-    }
-
-    private static int[] state(FoldedProfiles x) {
-        int[] all = new int[14 + 10 * 15 + 6 * 2 + 12 * 4];
-        int at = 0;
-        for (int what = 0; what < 14; what++) {
-            all[at++] = x.count(what);
-        }
-        for (int profile = 0; profile < 10; profile++) {
-            for (int step = 0; step < 8; step++) {
-                all[at++] = x.width(profile, step);
-            }
-            for (int what = 0; what < 7; what++) {
-                all[at++] = x.profile(profile, what);
-            }
-        }
-        for (int strip = 0; strip < 6; strip++) {
-            all[at++] = x.strip(strip, 0);
-            all[at++] = x.strip(strip, 1);
-        }
-        for (int sitter = 0; sitter < 12; sitter++) {
-            for (int what = 0; what < 4; what++) {
-                all[at++] = x.sitter(sitter, what);
-            }
-        }
-        return all;
-    }
-
-    private static void same(String what, int[] got, int[] want) {
-        for (int i = 0; i < want.length; i++) {
-            Due.due(what + ", number " + i + " of the state", got[i], want[i]);
-        }
+        Due.same("restored", Seen.state(x), then);
     }
 
     private static void keep() {
