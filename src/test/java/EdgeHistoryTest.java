@@ -114,7 +114,7 @@ public final class EdgeHistoryTest {
     }
 
     private static void acts() {
-        Due.sentence("Each call of a method that is described as an act records the state that was before it");
+        Due.sentence("Each call of a method that is described as an act, and returns no error and not NONE, records the state");
         act("buy", 1, x -> x.buy(1, 1));
         act("trade", 74, x -> x.trade(0, 2));
         act("part", 1, x -> x.part(0, 1));

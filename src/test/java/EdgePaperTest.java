@@ -287,6 +287,16 @@ public final class EdgePaperTest {
         Due.due("strip 0", x.strip(0, 0) * 10 + x.strip(0, 1), 91);
         Due.due("2 strips", x.count(2), 2);
         Due.due("nothing is paid", x.count(9), 8);
+        FoldedProfiles three = new FoldedProfiles();
+        three.buy(12, 1);
+        three.buy(13, 1);
+        three.buy(14, 1);
+        Due.due("the first of 3", three.trade(0, 2), 10);
+        Due.due("the second of 3", three.trade(1, 3), 11);
+        for (int strip = 0; strip < 3; strip++) {
+            Due.due("length of " + strip, three.strip(strip, 0), strip < 2 ? 10 + strip : 14);
+            Due.due("thickness of " + strip, three.strip(strip, 1), strip < 2 ? 2 + strip : 1);
+        }
         Due.sentence("Returns its length then; UNKNOWN; BAD_VALUE; NOT_POSSIBLE");
         Due.due("trade(2, 1)", x.trade(2, 1), FoldedProfiles.UNKNOWN);
         Due.due("trade(-1, 1)", x.trade(-1, 1), FoldedProfiles.UNKNOWN);
@@ -543,5 +553,12 @@ public final class EdgePaperTest {
         }
         Due.due("the last of 6", six.bestStrip(0, 0), 5);
         Due.due("of which it leaves the least by a fold", six.bestStrip(0, 1), 3);
+        FoldedProfiles longest = stallOfStrip(LEFT, 2, 1);
+        longest.cut(0, 0, 0);
+        longest.serve(0);
+        longest.buy(200, 1);
+        Due.due("the longest alone", longest.bestStrip(0, 3), 0);
+        longest.part(0, 199);
+        Due.due("by 1 shorter alone", longest.bestStrip(0, 0), 0);
     }
 }

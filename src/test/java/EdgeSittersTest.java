@@ -435,6 +435,8 @@ public final class EdgeSittersTest {
             Due.due(row[1] + " want " + row[0], x.fewestFolds(1, 0), row[2]);
             Due.due("one wants the other", x.fewestFolds(0, 0), 0);
         }
+        FoldedProfiles hasty = stallOfStrip("11111111l1;11111111r1", 60);
+        Due.due("those that would go are counted too", hasty.fewestFolds(0, 0), 1);
         Due.sentence("each counted as what it wants, without turning");
         FoldedProfiles x = stallOfStrip("11111111l;11111111l;11111111c", 60);
         Due.due("3 lefts and a right", x.fewestFolds(0, 0), 3);
@@ -479,6 +481,8 @@ public final class EdgeSittersTest {
         Due.due("0 has enough", x.fewestFolds(0, 0), 0);
         x.come(1, 1, 99);
         Due.due("which is no help for 1", x.fewestFolds(1, 0), 1);
+        x.come(1, 0, 99);
+        Due.due("nor is its left one", x.fewestFolds(1, 0), 2);
     }
 
     private static void fewestFoldsNotPossible() {

@@ -246,6 +246,7 @@ public final class EdgeTextsTest {
         Due.due("one more", x.comeAll(), 4);
         Due.due("behind the others", x.sitter(3, 0) * 1000 + x.sitter(3, 1) * 100 + x.sitter(3, 2), 1201);
         Due.due("no time", x.count(0), 0);
+        laterText();
         Due.sentence("This is one act");
         Due.due("2 acts", x.count(14), 2);
         Due.due("undo", x.undo(), 1);
@@ -253,6 +254,16 @@ public final class EdgeTextsTest {
         Due.due("undo", x.undo(), 0);
         Due.due("nobody waits", x.count(3), 0);
         Due.due("no profiles", x.count(1), 0);
+    }
+
+    private static void laterText() {
+        FoldedProfiles x = Due.stallWith("11111111c5;22222222r6;33333333c7");
+        Due.text(x, "44444444l;11111111l");
+        Due.due("2 more", x.comeAll(), 5);
+        Due.due("as the later text says", x.sitter(3, 0) * 1000 + x.sitter(3, 1) * 100 + x.sitter(3, 2), 3020);
+        Due.due("as the later text says", x.sitter(4, 0) * 1000 + x.sitter(4, 1) * 100 + x.sitter(4, 2), 20);
+        Due.text(x, "5555555");
+        Due.due("a text that ends too early", x.comeAll(), -107);
     }
 
     private static void keptProfiles() {
